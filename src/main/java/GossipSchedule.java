@@ -626,17 +626,16 @@ public final class GossipSchedule {
         return exponent << 23 | (int) ((fraction - 1.0f) * 8388608.0f);
     }
 
-    /** For 0 and for what is far from the least double, as a sum of products of 12 percents is. */
+    /**
+     * For chances: less than 2, and 0 or far from the least double, because a product of twelve
+     * hundredths is the least that is summed.
+     */
     private static long bitsOfDouble(double value) {
         if (value <= 0.0) {
             return 0L;
         }
         double fraction = value;
         long exponent = 1023L;
-        while (fraction >= 2.0 && exponent < 2046L) {
-            fraction = fraction / 2.0;
-            exponent++;
-        }
         while (fraction < 1.0 && exponent > 1L) {
             fraction = fraction * 2.0;
             exponent--;

@@ -35,6 +35,7 @@ public final class PromisesTest {
         promise25SmallestSufficientCalls();
         promise26SuccessProbability();
         promise27Digest();
+        removedCallsAreForgotten();
         examplesOfTheDocument();
         errorsChangeNothing();
         CHECK.end();
@@ -743,6 +744,32 @@ public final class PromisesTest {
             hash = 31L * hash + value;
         }
         return hash;
+    }
+
+    private static void removedCallsAreForgotten() {
+        GossipSchedule s = loaded(3, "0-1;1-2;2>0");
+        due("complete before removing", s.completeAfter(), 3);
+        s.removeLastRound();
+        s.addRound();
+        due("completeAfter() without the removed call", s.completeAfter(), GossipSchedule.NEVER);
+        due("knowledge(0, 3) without the removed call", s.knowledge(0, 3), 3);
+        due("averageKnowledge(3) without it", s.averageKnowledge(3), Float.floatToIntBits(8.0f / 3.0f));
+        due("isCritical(0) without it", s.isCritical(0), 0);
+        due("smallestSufficientCalls() without it", s.smallestSufficientCalls(), GossipSchedule.NEVER);
+        due("successProbability(100) without it", s.successProbability(100), 0);
+        due("another call instead", s.addCall(1, 0, true), 2);
+        due("its description", s.describeCall(2), 2110);
+        s.removeLastRound();
+        s.removeLastRound();
+        s.addRound();
+        s.addCall(0, 1, false);
+        due("redundantCalls() of what stands", s.redundantCalls(), 1);
+        s.removeLastRound();
+        due("redundantCalls() without the removed call", s.redundantCalls(), 0);
+        s.newSchedule(2, GossipSchedule.MIXED);
+        s.addRound();
+        due("knowledge(0, 1) of a new schedule", s.knowledge(0, 1), 1);
+        due("completeAfter() of a new schedule", s.completeAfter(), GossipSchedule.NEVER);
     }
 
     private static void examplesOfTheDocument() {
