@@ -45,29 +45,9 @@ public final class PromisesTest {
         CHECK.due(call, got, want);
     }
 
-    private static GossipSchedule schedule(int persons, int mode, int graph) {
-        GossipSchedule s = new GossipSchedule();
-        due("newSchedule(" + persons + ", " + mode + ")", s.newSchedule(persons, mode), persons);
-        due("setGraph(" + graph + ")", s.setGraph(graph), GossipSchedule.COMPLETE);
-        return s;
-    }
-
-    private static GossipSchedule loaded(int persons, String text) {
-        GossipSchedule s = schedule(persons, GossipSchedule.MIXED, GossipSchedule.COMPLETE);
-        write(s, text);
-        due("load() of " + text, s.load(), (text.length() + 1) / 4);
-        return s;
-    }
-
-    private static void write(GossipSchedule s, String text) {
-        for (int i = 0; i < text.length(); i++) {
-            s.append(text.charAt(i));
-        }
-    }
-
     private static int firstErrorOf(int persons, String text) {
-        GossipSchedule s = schedule(persons, GossipSchedule.MIXED, GossipSchedule.COMPLETE);
-        write(s, text);
+        GossipSchedule s = Make.schedule(persons, GossipSchedule.MIXED, GossipSchedule.COMPLETE);
+        Make.write(s, text);
         return s.firstError();
     }
 
@@ -93,8 +73,8 @@ public final class PromisesTest {
     }
 
     private static void promise2NewSchedule() {
-        GossipSchedule s = loaded(4, "0-1,2-3;0-2,1-3");
-        write(s, "0-1");
+        GossipSchedule s = Make.loaded(4, "0-1,2-3;0-2,1-3");
+        Make.write(s, "0-1");
         s.setGraph(GossipSchedule.RING);
         int[][] wrong = {{1, 0}, {9, 0}, {0, 0}, {-1, 0}, {LEAST, 0}, {MOST, 0},
             {2, -1}, {2, 3}, {8, LEAST}, {8, MOST}, {1, 3}};
@@ -126,7 +106,7 @@ public final class PromisesTest {
     }
 
     private static void promise3SetGraph() {
-        GossipSchedule s = loaded(4, "0-2;1-3");
+        GossipSchedule s = Make.loaded(4, "0-2;1-3");
         int previous = 0;
         for (int kind : new int[] {1, 2, 3, 4, 4, 0, 3, 1}) {
             due("setGraph(" + kind + ")", s.setGraph(kind), previous);
@@ -165,7 +145,7 @@ public final class PromisesTest {
         dueNeighbors(5, GossipSchedule.STAR, "01 02 03 04 10 20 30 40");
         dueNeighbors(8, GossipSchedule.CUBE, "01 02 04 10 13 15 20 23 26 31 32 37 "
                 + "40 45 46 51 54 57 62 64 67 73 75 76");
-        GossipSchedule s = schedule(3, GossipSchedule.MIXED, GossipSchedule.RING);
+        GossipSchedule s = Make.schedule(3, GossipSchedule.MIXED, GossipSchedule.RING);
         for (int person : new int[] {-1, 3, 8, 32, 33, LEAST, MOST}) {
             due("areNeighbors(" + person + ", 0)", s.areNeighbors(person, 0), GossipSchedule.NO_SUCH_PERSON);
             due("areNeighbors(2, " + person + ")", s.areNeighbors(2, person), GossipSchedule.NO_SUCH_PERSON);
@@ -175,7 +155,7 @@ public final class PromisesTest {
     }
 
     private static void dueNeighbors(int persons, int graph, String pairs) {
-        GossipSchedule s = schedule(persons, GossipSchedule.MIXED, graph);
+        GossipSchedule s = Make.schedule(persons, GossipSchedule.MIXED, graph);
         for (int a = 0; a < persons; a++) {
             for (int b = 0; b < persons; b++) {
                 due("areNeighbors(" + a + ", " + b + ") of " + persons + " in graph " + graph,
@@ -198,7 +178,7 @@ public final class PromisesTest {
     }
 
     private static void promise6AddCall() {
-        GossipSchedule s = schedule(5, GossipSchedule.TWO_WAY_ONLY, GossipSchedule.LINE);
+        GossipSchedule s = Make.schedule(5, GossipSchedule.TWO_WAY_ONLY, GossipSchedule.LINE);
         for (int person : new int[] {-1, 5, 8, LEAST, MOST}) {
             due("addCall(" + person + ", 0)", s.addCall(person, 0, false), GossipSchedule.NO_SUCH_PERSON);
             due("addCall(0, " + person + ")", s.addCall(0, person, false), GossipSchedule.NO_SUCH_PERSON);
@@ -219,7 +199,7 @@ public final class PromisesTest {
         due("a new round, nobody busy", s.addCall(3, 4, false), 2);
         dueCalls("a line of five", s, 10, 32, 1034);
 
-        GossipSchedule one = schedule(3, GossipSchedule.ONE_WAY_ONLY, GossipSchedule.COMPLETE);
+        GossipSchedule one = Make.schedule(3, GossipSchedule.ONE_WAY_ONLY, GossipSchedule.COMPLETE);
         one.addRound();
         due("two-way in mode ONE_WAY_ONLY", one.addCall(0, 1, false), GossipSchedule.WRONG_KIND);
         due("one-way in mode ONE_WAY_ONLY", one.addCall(0, 1, true), 0);
@@ -227,7 +207,7 @@ public final class PromisesTest {
     }
 
     private static void promise6Limits() {
-        GossipSchedule s = schedule(8, GossipSchedule.ONE_WAY_ONLY, GossipSchedule.COMPLETE);
+        GossipSchedule s = Make.schedule(8, GossipSchedule.ONE_WAY_ONLY, GossipSchedule.COMPLETE);
         for (int call = 0; call < 28; call++) {
             if (call % 4 == 0) {
                 s.addRound();
@@ -250,7 +230,7 @@ public final class PromisesTest {
     }
 
     private static void promise7RemoveLastRound() {
-        GossipSchedule s = loaded(4, "0-1,2-3;0-2;1-3,0-2");
+        GossipSchedule s = Make.loaded(4, "0-1,2-3;0-2;1-3,0-2");
         s.addRound();
         due("an empty round goes", s.removeLastRound(), 3);
         due("calls stay", s.callCount(), 5);
@@ -284,8 +264,8 @@ public final class PromisesTest {
     }
 
     private static void promise9ClearInput() {
-        GossipSchedule s = loaded(3, "0-1;1-2");
-        write(s, "0-1,x");
+        GossipSchedule s = Make.loaded(3, "0-1;1-2");
+        Make.write(s, "0-1,x");
         due("clearInput()", s.clearInput(), 5);
         due("clearInput() of an empty buffer", s.clearInput(), 0);
         due("append after it", s.append('0'), 1);
@@ -314,8 +294,8 @@ public final class PromisesTest {
             due("last callee of " + persons, firstErrorOf(persons, "0>" + (persons - 1)), 3);
             due("callee beyond " + persons, firstErrorOf(persons, "0>" + persons), 2);
         }
-        GossipSchedule s = schedule(5, GossipSchedule.MIXED, GossipSchedule.COMPLETE);
-        write(s, "0-1;0-4");
+        GossipSchedule s = Make.schedule(5, GossipSchedule.MIXED, GossipSchedule.COMPLETE);
+        Make.write(s, "0-1;0-4");
         due("five persons", s.firstError(), 7);
         s.newSchedule(4, GossipSchedule.MIXED);
         due("the same text, four persons", s.firstError(), 6);
@@ -323,14 +303,14 @@ public final class PromisesTest {
     }
 
     private static void promise11Load() {
-        GossipSchedule s = loaded(4, "0-1,2-3;0-2,1-3");
+        GossipSchedule s = Make.loaded(4, "0-1,2-3;0-2,1-3");
         dueCalls("two rounds", s, 1, 23, 1002, 1013);
         due("roundCount()", s.roundCount(), 2);
         due("the buffer is cleared", s.clearInput(), 0);
         s.addRound();
         s.addRound();
         s.setGraph(GossipSchedule.RING);
-        write(s, "3>0");
+        Make.write(s, "3>0");
         due("load()", s.load(), 1);
         due("all rounds are replaced", s.roundCount(), 1);
         dueCalls("one round", s, 130);
@@ -340,7 +320,7 @@ public final class PromisesTest {
         due("where the loaded persons are busy", s.addCall(3, 2, false), GossipSchedule.PERSON_BUSY);
 
         String full = "0-1;1>0;0-1;1>0;0-1;1>0;0-1;1>0;0-1;1>0;0-1;1>0;0-1;1>0;0-1";
-        GossipSchedule longest = loaded(2, full);
+        GossipSchedule longest = Make.loaded(2, full);
         due("59 characters", full.length(), 59);
         due("15 rounds", longest.roundCount(), 15);
         due("the last call", longest.describeCall(14), 14001);
@@ -375,10 +355,10 @@ public final class PromisesTest {
     }
 
     private static void dueLoad(int persons, int mode, int graph, String text, int want) {
-        GossipSchedule s = schedule(persons, mode, graph);
+        GossipSchedule s = Make.schedule(persons, mode, graph);
         s.addRound();
         s.addRound();
-        write(s, text);
+        Make.write(s, text);
         due("load() of '" + text + "', mode " + mode + ", graph " + graph, s.load(), want);
         due("calls after '" + text + "'", s.callCount(), want < 0 ? 0 : want);
         if (want < 0) {
@@ -397,7 +377,7 @@ public final class PromisesTest {
         dueCalls("doubling of 4", s, 1, 23, 1002, 1013);
         s.newSchedule(8, GossipSchedule.MIXED);
         s.setGraph(GossipSchedule.CUBE);
-        write(s, "0-1");
+        Make.write(s, "0-1");
         due("buildDoubling() of 8", s.buildDoubling(), 12);
         dueCalls("doubling of 8", s, 1, 23, 45, 67, 1002, 1013, 1046, 1057, 2004, 2015, 2026, 2037);
         due("rounds", s.roundCount(), 3);
@@ -406,10 +386,10 @@ public final class PromisesTest {
         for (int persons = 2; persons <= 8; persons++) {
             boolean fits = persons == 2 || persons == 4 || persons == 8;
             for (int graph = 0; graph <= 3; graph++) {
-                GossipSchedule one = schedule(persons, GossipSchedule.ONE_WAY_ONLY, graph);
+                GossipSchedule one = Make.schedule(persons, GossipSchedule.ONE_WAY_ONLY, graph);
                 due("one-way doubling of " + persons, one.buildDoubling(),
                         fits ? GossipSchedule.WRONG_KIND : GossipSchedule.WRONG_PERSON_COUNT);
-                GossipSchedule two = schedule(persons, GossipSchedule.TWO_WAY_ONLY, graph);
+                GossipSchedule two = Make.schedule(persons, GossipSchedule.TWO_WAY_ONLY, graph);
                 int want = !fits ? GossipSchedule.WRONG_PERSON_COUNT
                         : graph != 0 ? GossipSchedule.NOT_NEIGHBORS
                         : persons == 2 ? 1 : persons == 4 ? 4 : 12;
@@ -419,7 +399,7 @@ public final class PromisesTest {
     }
 
     private static void promise13BuildFourCore() {
-        GossipSchedule s = loaded(4, "0-1;1-2");
+        GossipSchedule s = Make.loaded(4, "0-1;1-2");
         due("buildFourCore() of 4", s.buildFourCore(), 4);
         dueCalls("four core of 4", s, 1, 23, 1002, 1013);
         s.newSchedule(5, GossipSchedule.TWO_WAY_ONLY);
@@ -436,10 +416,10 @@ public final class PromisesTest {
                 if (graph == 4 && persons != 2 && persons != 4 && persons != 8) {
                     continue;
                 }
-                GossipSchedule one = schedule(persons, GossipSchedule.ONE_WAY_ONLY, graph);
+                GossipSchedule one = Make.schedule(persons, GossipSchedule.ONE_WAY_ONLY, graph);
                 due("one-way four core of " + persons, one.buildFourCore(),
                         persons < 4 ? GossipSchedule.WRONG_PERSON_COUNT : GossipSchedule.WRONG_KIND);
-                GossipSchedule two = schedule(persons, GossipSchedule.MIXED, graph);
+                GossipSchedule two = Make.schedule(persons, GossipSchedule.MIXED, graph);
                 int want = persons < 4 ? GossipSchedule.WRONG_PERSON_COUNT
                         : graph != 0 ? GossipSchedule.NOT_NEIGHBORS : 2 * persons - 4;
                 due("four core of " + persons + " in graph " + graph, two.buildFourCore(), want);
@@ -448,7 +428,7 @@ public final class PromisesTest {
     }
 
     private static void promise14BuildGatherSpread() {
-        GossipSchedule s = loaded(4, "0-1;1-2");
+        GossipSchedule s = Make.loaded(4, "0-1;1-2");
         due("buildGatherSpread() of 4", s.buildGatherSpread(), 5);
         dueCalls("gather and spread of 4", s, 10, 1020, 2030, 3001, 4002);
         due("completeAfter()", s.completeAfter(), 5);
@@ -473,7 +453,7 @@ public final class PromisesTest {
     }
 
     private static void dueGatherSpread(int persons, int mode, int graph, int want) {
-        GossipSchedule s = schedule(persons, mode, graph);
+        GossipSchedule s = Make.schedule(persons, mode, graph);
         s.addRound();
         due("gather and spread of " + persons + ", mode " + mode + ", graph " + graph,
                 s.buildGatherSpread(), want);
@@ -482,7 +462,7 @@ public final class PromisesTest {
     }
 
     private static void promises15To17Counts() {
-        GossipSchedule s = loaded(7, "0-1,2-3,4-5;0-6");
+        GossipSchedule s = Make.loaded(7, "0-1,2-3,4-5;0-6");
         s.addRound();
         due("personCount()", s.personCount(), 7);
         due("roundCount()", s.roundCount(), 3);
@@ -498,7 +478,7 @@ public final class PromisesTest {
     }
 
     private static void promise18DescribeCall() {
-        GossipSchedule s = schedule(8, GossipSchedule.MIXED, GossipSchedule.COMPLETE);
+        GossipSchedule s = Make.schedule(8, GossipSchedule.MIXED, GossipSchedule.COMPLETE);
         due("describeCall(0) of none", s.describeCall(0), GossipSchedule.NO_SUCH_CALL);
         s.addRound();
         s.addRound();
@@ -516,7 +496,7 @@ public final class PromisesTest {
     }
 
     private static void promise19Knowledge() {
-        GossipSchedule s = loaded(4, "0>1,2-3;1>2;2-0,3>1");
+        GossipSchedule s = Make.loaded(4, "0>1,2-3;1>2;2-0,3>1");
         int[][] want = {{1, 2, 4, 8}, {1, 3, 12, 12}, {1, 3, 15, 12}, {15, 15, 15, 12}};
         for (int rounds = 0; rounds <= 3; rounds++) {
             for (int person = 0; person < 4; person++) {
@@ -533,7 +513,7 @@ public final class PromisesTest {
         }
         s.addRound();
         due("after an empty round", s.knowledge(3, 4), 12);
-        GossipSchedule eight = schedule(8, GossipSchedule.MIXED, GossipSchedule.COMPLETE);
+        GossipSchedule eight = Make.schedule(8, GossipSchedule.MIXED, GossipSchedule.COMPLETE);
         eight.buildDoubling();
         due("knowledge(7, 0) of 8", eight.knowledge(7, 0), 128);
         due("knowledge(7, 2) of 8", eight.knowledge(7, 2), 240);
@@ -557,26 +537,26 @@ public final class PromisesTest {
         s.addRound();
         s.addCall(0, 1, false);
         due("later rounds do not count", s.completeAfter(), 4);
-        due("all but one item", loaded(3, "0-1;1-2").completeAfter(),
+        due("all but one item", Make.loaded(3, "0-1;1-2").completeAfter(),
                 GossipSchedule.NEVER);
-        due("three persons", loaded(3, "0-1;1-2;2>0").completeAfter(), 3);
-        due("the first call of a round completes", loaded(4, "0-1,2-3;0-2;1-3,0-2").completeAfter(), 3);
+        due("three persons", Make.loaded(3, "0-1;1-2;2>0").completeAfter(), 3);
+        due("the first call of a round completes", Make.loaded(4, "0-1,2-3;0-2;1-3,0-2").completeAfter(), 3);
     }
 
     private static void promise21RedundantCalls() {
         GossipSchedule s = new GossipSchedule();
         due("no calls", s.redundantCalls(), 0);
-        due("again", loaded(2, "0-1;0-1;1>0").redundantCalls(), 2);
-        due("the caller of a one-way call learns nothing", loaded(3, "0>1;1>0;0>1").redundantCalls(), 1);
-        due("the callee knows it all", loaded(3, "0>1;0>1").redundantCalls(), 1);
-        due("one-way from the ignorant, then two-way", loaded(3, "0>1;0-1;0-1").redundantCalls(), 1);
-        due("in a schedule that is not complete", loaded(4, "0-1,2-3;0-1,2-3").redundantCalls(), 2);
-        due("no call is in vain", loaded(4, "0-1,2-3;0-2,1-3").redundantCalls(), 0);
+        due("again", Make.loaded(2, "0-1;0-1;1>0").redundantCalls(), 2);
+        due("the caller of a one-way call learns nothing", Make.loaded(3, "0>1;1>0;0>1").redundantCalls(), 1);
+        due("the callee knows it all", Make.loaded(3, "0>1;0>1").redundantCalls(), 1);
+        due("one-way from the ignorant, then two-way", Make.loaded(3, "0>1;0-1;0-1").redundantCalls(), 1);
+        due("in a schedule that is not complete", Make.loaded(4, "0-1,2-3;0-1,2-3").redundantCalls(), 2);
+        due("no call is in vain", Make.loaded(4, "0-1,2-3;0-2,1-3").redundantCalls(), 0);
     }
 
     private static void promise22AverageKnowledge() {
         for (int persons = 2; persons <= 8; persons++) {
-            GossipSchedule s = schedule(persons, GossipSchedule.ONE_WAY_ONLY, GossipSchedule.COMPLETE);
+            GossipSchedule s = Make.schedule(persons, GossipSchedule.ONE_WAY_ONLY, GossipSchedule.COMPLETE);
             s.buildGatherSpread();
             for (int rounds = 0; rounds <= s.roundCount(); rounds++) {
                 int total = 0;
@@ -587,7 +567,7 @@ public final class PromisesTest {
                         Float.floatToIntBits((float) total / persons));
             }
         }
-        GossipSchedule s = loaded(3, "0>1");
+        GossipSchedule s = Make.loaded(3, "0>1");
         due("a third", s.averageKnowledge(1), Float.floatToIntBits(4.0f / 3.0f));
         for (int rounds : new int[] {-1, 2, 16, LEAST, MOST}) {
             due("averageKnowledge(" + rounds + ")", s.averageKnowledge(rounds), GossipSchedule.OUT_OF_RANGE);
@@ -611,7 +591,7 @@ public final class PromisesTest {
 
     private static void dueLeastCalls(int persons, int graph, int twoWay) {
         for (int mode = 0; mode <= 2; mode++) {
-            GossipSchedule s = schedule(persons, mode, graph);
+            GossipSchedule s = Make.schedule(persons, mode, graph);
             String of = " of " + persons + " in graph " + graph + ", mode " + mode;
             due("leastCalls(false)" + of, s.leastCalls(false), twoWay);
             due("leastCalls(true)" + of, s.leastCalls(true), 2 * persons - 2);
@@ -619,7 +599,7 @@ public final class PromisesTest {
     }
 
     private static void promise24IsCritical() {
-        GossipSchedule s = loaded(3, "0-1;0-1;1-2;2>0;2-0");
+        GossipSchedule s = Make.loaded(3, "0-1;0-1;1-2;2>0;2-0");
         int[] want = {0, 0, 1, 0, 0};
         for (int call = 0; call < want.length; call++) {
             due("isCritical(" + call + ")", s.isCritical(call), want[call]);
@@ -632,7 +612,7 @@ public final class PromisesTest {
         s.removeLastRound();
         due("no call of an incomplete schedule is", s.isCritical(2), 0);
         due("no such call of an incomplete one", s.isCritical(3), GossipSchedule.NO_SUCH_CALL);
-        GossipSchedule eight = schedule(8, GossipSchedule.ONE_WAY_ONLY, GossipSchedule.COMPLETE);
+        GossipSchedule eight = Make.schedule(8, GossipSchedule.ONE_WAY_ONLY, GossipSchedule.COMPLETE);
         eight.buildGatherSpread();
         for (int call = 0; call < 14; call++) {
             due("isCritical(" + call + ") of 14 calls", eight.isCritical(call), 1);
@@ -642,17 +622,17 @@ public final class PromisesTest {
     private static void promise25SmallestSufficientCalls() {
         GossipSchedule none = new GossipSchedule();
         due("no calls", none.smallestSufficientCalls(), GossipSchedule.NEVER);
-        due("one call", loaded(2, "0-1").smallestSufficientCalls(), 1);
-        due("the least mask", loaded(2, "0>1;0-1;1-0;1>0").smallestSufficientCalls(), 2);
-        due("fewer calls before a lesser mask", loaded(2, "0>1;1>0;0-1").smallestSufficientCalls(), 4);
-        due("incomplete", loaded(3, "0-1;1-2").smallestSufficientCalls(), GossipSchedule.NEVER);
-        due("redundant ones left out", loaded(3, "0-1;0-1;1-2;2>0;2-0").smallestSufficientCalls(), 13);
-        GossipSchedule twelve = loaded(2, "0>1;0>1;0>1;0>1;0>1;0>1;0>1;0>1;0>1;0>1;0>1;1>0");
+        due("one call", Make.loaded(2, "0-1").smallestSufficientCalls(), 1);
+        due("the least mask", Make.loaded(2, "0>1;0-1;1-0;1>0").smallestSufficientCalls(), 2);
+        due("fewer calls before a lesser mask", Make.loaded(2, "0>1;1>0;0-1").smallestSufficientCalls(), 4);
+        due("incomplete", Make.loaded(3, "0-1;1-2").smallestSufficientCalls(), GossipSchedule.NEVER);
+        due("redundant ones left out", Make.loaded(3, "0-1;0-1;1-2;2>0;2-0").smallestSufficientCalls(), 13);
+        GossipSchedule twelve = Make.loaded(2, "0>1;0>1;0>1;0>1;0>1;0>1;0>1;0>1;0>1;0>1;0>1;1>0");
         due("12 calls", twelve.smallestSufficientCalls(), 2049);
         twelve.addRound();
         due("the 13th call", twelve.addCall(0, 1, false), 12);
         due("13 calls", twelve.smallestSufficientCalls(), GossipSchedule.TOO_LARGE);
-        GossipSchedule many = schedule(8, GossipSchedule.MIXED, GossipSchedule.COMPLETE);
+        GossipSchedule many = Make.schedule(8, GossipSchedule.MIXED, GossipSchedule.COMPLETE);
         for (int call = 0; call < 13; call++) {
             many.addRound();
             many.addCall(0, 1, false);
@@ -665,12 +645,12 @@ public final class PromisesTest {
     private static void promise26SuccessProbability() {
         GossipSchedule s = new GossipSchedule();
         due("no calls", s.successProbability(100), Double.doubleToLongBits(0.0));
-        GossipSchedule one = loaded(2, "0-1");
+        GossipSchedule one = Make.loaded(2, "0-1");
         for (int percent = 0; percent <= 100; percent++) {
             due("one call, " + percent, one.successProbability(percent),
                     Double.doubleToLongBits(percent / 100.0));
         }
-        GossipSchedule two = loaded(2, "0-1;1-0");
+        GossipSchedule two = Make.loaded(2, "0-1;1-0");
         for (int percent = 0; percent <= 100; percent++) {
             double p = percent / 100.0;
             double sum = 0.0;
@@ -679,7 +659,7 @@ public final class PromisesTest {
             sum += 1.0 * p * p;
             due("two calls, " + percent, two.successProbability(percent), Double.doubleToLongBits(sum));
         }
-        GossipSchedule eight = schedule(8, GossipSchedule.MIXED, GossipSchedule.COMPLETE);
+        GossipSchedule eight = Make.schedule(8, GossipSchedule.MIXED, GossipSchedule.COMPLETE);
         eight.buildDoubling();
         double least = 1.0;
         for (int call = 0; call < 12; call++) {
@@ -704,8 +684,8 @@ public final class PromisesTest {
         due("digest() of a new object", fresh.digest(), hashOf(values));
         due("digest() changes nothing", fresh.digest(), hashOf(values));
 
-        GossipSchedule s = schedule(2, GossipSchedule.ONE_WAY_ONLY, GossipSchedule.LINE);
-        write(s, "0>1;1>0");
+        GossipSchedule s = Make.schedule(2, GossipSchedule.ONE_WAY_ONLY, GossipSchedule.LINE);
+        Make.write(s, "0>1;1>0");
         s.load();
         s.append('x');
         s.append(' ');
@@ -715,7 +695,7 @@ public final class PromisesTest {
             Double.doubleToLongBits(0.25), 2, 'x', ' '};
         due("digest() of two one-way calls", s.digest(), hashOf(more));
 
-        GossipSchedule large = schedule(2, GossipSchedule.MIXED, GossipSchedule.COMPLETE);
+        GossipSchedule large = Make.schedule(2, GossipSchedule.MIXED, GossipSchedule.COMPLETE);
         long[] big = new long[13 * 2 + 5 + 14 * 3 + 7];
         big[0] = 2;
         big[3] = 13;
@@ -747,7 +727,7 @@ public final class PromisesTest {
     }
 
     private static void removedCallsAreForgotten() {
-        GossipSchedule s = loaded(3, "0-1;1-2;2>0");
+        GossipSchedule s = Make.loaded(3, "0-1;1-2;2>0");
         due("complete before removing", s.completeAfter(), 3);
         s.removeLastRound();
         s.addRound();
@@ -789,7 +769,7 @@ public final class PromisesTest {
 
         s = new GossipSchedule();
         due("example 2", s.newSchedule(3, 0), 3);
-        write(s, "0-1,1-2");
+        Make.write(s, "0-1,1-2");
         due("example 2", s.load(), -9);
         due("example 2", s.clearInput(), 7);
         due("example 2", s.addRound(), 1);
@@ -819,10 +799,10 @@ public final class PromisesTest {
     }
 
     private static void errorsChangeNothing() {
-        GossipSchedule s = schedule(6, GossipSchedule.ONE_WAY_ONLY, GossipSchedule.RING);
-        write(s, "0>1,2>3;5>0");
+        GossipSchedule s = Make.schedule(6, GossipSchedule.ONE_WAY_ONLY, GossipSchedule.RING);
+        Make.write(s, "0>1,2>3;5>0");
         s.load();
-        write(s, "0>1,1>2");
+        Make.write(s, "0>1,1>2");
         long before = s.digest();
         int[] answers = {
             s.newSchedule(9, 0), s.setGraph(7), s.setGraph(GossipSchedule.CUBE), s.areNeighbors(6, 0),
