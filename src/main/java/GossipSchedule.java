@@ -13,6 +13,8 @@ public final class GossipSchedule {
 
     private static final int LEAST_PERSONS = 2;
     private static final int MOST_PERSONS = 8;
+    /** A person's number has no more bits than this. */
+    private static final int MOST_BITS = 3;
     private static final int MOST_ROUNDS = 16;
     private static final int MOST_CALLS = 28;
     private static final int MOST_CHARACTERS = 59;
@@ -188,9 +190,9 @@ public final class GossipSchedule {
             return NOT_NEIGHBORS;
         }
         dropRounds();
-        for (int step = 1; step < personTotal; step = 2 * step) {
+        for (int bit = 0; bit < MOST_BITS && 1 << bit < personTotal; bit++) {
             roundTotal++;
-            putCallsOverStep(step);
+            putCallsOverStep(1 << bit);
         }
         return callTotal;
     }

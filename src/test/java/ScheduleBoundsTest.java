@@ -90,6 +90,7 @@ public final class ScheduleBoundsTest {
         due("rounds of the second", second.roundCount(), 0);
         due("calls of the second", second.callCount(), 0);
         due("buffer of the second", second.clearInput(), 0);
+        Make.write(second, "~~~~");
         Make.addSameCalls(second, 3);
         due("graph of the second", second.setGraph(GossipSchedule.RING), GossipSchedule.COMPLETE);
         due("the first stays as it was", first.digest(), before);
@@ -146,8 +147,8 @@ public final class ScheduleBoundsTest {
     }
 
     private static void modesInRange() {
-        for (int mode = MIXED; mode <= ONE_WAY; mode++) {
-            GossipSchedule s = new GossipSchedule();
+        GossipSchedule s = new GossipSchedule();
+        for (int mode : new int[] {MIXED, TWO_WAY, ONE_WAY, ONE_WAY, TWO_WAY, TWO_WAY, MIXED, ONE_WAY, MIXED}) {
             due("newSchedule(3, " + mode + ")", s.newSchedule(3, mode), 3);
             Make.addRounds(s, 1);
             due("a two-way call", s.addCall(0, 1, false) >= 0 ? 1 : 0, mode == ONE_WAY ? 0 : 1);

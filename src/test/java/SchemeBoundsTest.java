@@ -91,6 +91,12 @@ public final class SchemeBoundsTest {
         Make.addRounds(s, 1);
         due("the mode stays: two-way", s.addCall(0, 5, false), 13);
         due("the mode stays: one-way", s.addCall(1, 4, true), 14);
+        GossipSchedule cube = Make.schedule(8, MIXED, CUBE);
+        due("doubling in a cube", cube.buildDoubling(), 12);
+        due("the cube stays", cube.setGraph(COMPLETE), CUBE);
+        GossipSchedule star = Make.schedule(5, ONE_WAY, GossipSchedule.STAR);
+        due("gather and spread in a star", star.buildGatherSpread(), 8);
+        due("the star stays", star.setGraph(COMPLETE), GossipSchedule.STAR);
     }
 
     // ---- promise 12
